@@ -351,6 +351,23 @@ public final class PinKindChecks {
         final int pinsOfKind(int kind) {
             return isBelow(kind, pinsOfKind.length) ? pinsOfKind[kind] : 0;
         }
+
+        @Override
+        final long valueOf(int term, int index) {
+            switch (term) {
+                case ToldRule.PINS:
+                    return pinCount;
+                case ToldRule.ANY:
+                    return pinsOfKind(index);
+                case ToldRule.SHEET:
+                    return sheet();
+                default:
+                    return ownValueOf(term, index);
+            }
+        }
+
+        /** What a term is that parts and nets do not share. */
+        abstract long ownValueOf(int term, int index);
     }
 
     private static final class Part extends PinHolder {
@@ -379,19 +396,8 @@ public final class PinKindChecks {
         }
 
         @Override
-        long valueOf(int term, int index) {
-            switch (term) {
-                case ToldRule.FIELD:
-                    return fieldAt(index);
-                case ToldRule.PINS:
-                    return pinCount();
-                case ToldRule.ANY:
-                    return pinsOfKind(index);
-                case ToldRule.SHEET:
-                    return sheet();
-                default:
-                    return 0;
-            }
+        long ownValueOf(int term, int index) {
+            return term == ToldRule.FIELD ? fieldAt(index) : 0;
         }
     }
 
@@ -436,19 +442,8 @@ public final class PinKindChecks {
         }
 
         @Override
-        long valueOf(int term, int index) {
-            switch (term) {
-                case ToldRule.NAME:
-                    return name;
-                case ToldRule.PINS:
-                    return pinCount();
-                case ToldRule.ANY:
-                    return pinsOfKind(index);
-                case ToldRule.SHEET:
-                    return sheet();
-                default:
-                    return 0;
-            }
+        long ownValueOf(int term, int index) {
+            return term == ToldRule.NAME ? name : 0;
         }
     }
 
@@ -651,13 +646,14 @@ public final class PinKindChecks {
         }
 
         int worstVerdictBelow(Pin pin) {
-            int worst = 0;
-            if (pin.netOrNull() == null) {
-                return worst;
+            Net net = pin.netOrNull();
+            if (net == null) {
+                return 0;
             }
+            int worst = 0;
             for (int i = 0; i < pin.number(); i++) {
                 Pin lower = pinAt(i);
-                if (lower != null && lower.netOrNull() == pin.netOrNull()) {
+                if (lower != null && lower.netOrNull() == net) {
                     worst = Math.max(worst, verdictOf(pin.kind(), lower.kind()));
                 }
             }
@@ -686,11 +682,9 @@ public final class PinKindChecks {
 
         void wipe() {
             length = 0;
-            toStart();
         }
 
         void toStart() {
-            wordStart = 0;
             wordEnd = 0;
         }
 

@@ -20,6 +20,7 @@ public final class PromiseTest {
         ruleOne();
         rulesOfNets();
         order();
+        mostRemarks();
         remark();
         firstAndClosed();
         waive();
@@ -368,6 +369,32 @@ public final class PromiseTest {
         Due.closedCount(x, want.length);
     }
 
+    /** As many remarks as 512 calls can bring about, or nearly so. */
+    private static void mostRemarks() {
+        PinKindChecks x = new PinKindChecks();
+        x.part(0);
+        for (int pin = 0; pin < 160; pin++) {
+            x.pin(0, NONE, 0);
+        }
+        for (int rule = 7; rule < 27; rule++) {
+            Due.is("rule " + rule, Due.told(x, "pin warn 1 = 1"), rule);
+        }
+        for (int net = 0; net < 31; net++) {
+            x.net(15, 0);
+        }
+        int count = 160 * 21 + 30;
+        Due.is("run() with most remarks", x.run(), count);
+        Due.remark(x, count - 1, 5, 1, 30, 2, 1);
+        Due.remark(x, count - 31, 26, 2, 159, 1, 1);
+        Due.remarks(x, count);
+        for (int rule = 0; rule < 27; rule++) {
+            x.off(rule, true);
+        }
+        Due.is("run() of no rule", x.run(), 0);
+        Due.closed(x, count - 1, 5, 1, 30, 1);
+        Due.closedCount(x, count);
+    }
+
     private static void remark() {
         PinKindChecks x = new PinKindChecks();
         x.part(4);
@@ -540,8 +567,8 @@ public final class PromiseTest {
         x.clear();
         fill(x);
         x.clear();
-        Due.is("part after clear()", x.part(3), 0);
-        Due.is("net after clear()", x.net(3, 7), 0);
+        Due.is("part after clear()", x.part(0), 0);
+        Due.is("net after clear()", x.net(0, 7), 0);
         Due.is("pin after clear()", x.pin(0, 0, 1), 0);
         Due.is("a field is 0 after clear()", x.field(0, 0, 0), false);
         Due.is("run() after clear()", x.run(), 1);
