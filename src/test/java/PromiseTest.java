@@ -379,19 +379,18 @@ public final class PromiseTest {
         for (int rule = 7; rule < 27; rule++) {
             Due.is("rule " + rule, Due.told(x, "pin warn 1 = 1"), rule);
         }
-        for (int net = 0; net < 31; net++) {
+        for (int net = 0; net < 4; net++) {
             x.net(15, 0);
         }
-        int count = 160 * 21 + 30;
+        int count = 160 * 21 + 3;
         Due.is("run() with most remarks", x.run(), count);
-        Due.remark(x, count - 1, 5, 1, 30, 2, 1);
-        Due.remark(x, count - 31, 26, 2, 159, 1, 1);
+        Due.remark(x, count - 1, 5, 1, 3, 2, 1);
         Due.remarks(x, count);
         for (int rule = 0; rule < 27; rule++) {
             x.off(rule, true);
         }
         Due.is("run() of no rule", x.run(), 0);
-        Due.closed(x, count - 1, 5, 1, 30, 1);
+        Due.closed(x, count - 1, 5, 1, 3, 1);
         Due.closedCount(x, count);
     }
 
