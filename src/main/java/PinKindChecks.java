@@ -37,8 +37,7 @@ public final class PinKindChecks {
     private static final int CLOSED_PARTS = 4;
 
     private final Schematic schematic = new Schematic();
-    private final RuleText text = new RuleText();
-    private final RuleReader reader = new RuleReader(text);
+    private final RuleReader reader = new RuleReader();
     private final ToldRule[] told = new ToldRule[MOST_TOLD];
     private final boolean[] isOff = new boolean[MOST_RULES];
     private final Waivers waivers = new Waivers();
@@ -115,7 +114,7 @@ public final class PinKindChecks {
     }
 
     public boolean unit(int u) {
-        return text.addLetter(u);
+        return reader.addLetter(u);
     }
 
     public int rule() throws IllegalStateException {
@@ -123,7 +122,7 @@ public final class PinKindChecks {
             throw new IllegalStateException("no more rules can be told");
         }
         ToldRule read = reader.readRule();
-        text.wipe();
+        reader.wipe();
         if (read == null) {
             return -1 - reader.wrongWord();
         }
@@ -207,7 +206,7 @@ public final class PinKindChecks {
 
     public void clear() {
         schematic.wipe();
-        text.wipe();
+        reader.wipe();
         waivers.wipe();
         latest.wipe();
         before.wipe();
@@ -253,10 +252,8 @@ public final class PinKindChecks {
             return thing.builtInWeight(rule, schematic);
         }
         int index = rule - BUILT_IN_RULES;
-        if (!isBelow(index, told.length) || told[index] == null) {
-            return 0;
-        }
-        return told[index].weightFor(thing, stack);
+        ToldRule asked = isBelow(index, told.length) ? told[index] : null;
+        return asked != null && asked.isAbout(thing) && asked.holdsFor(thing, stack) ? asked.weight() : 0;
     }
 
     /** Both runs are in the same order, for no thing ever changes its sheet, so one walk along both is enough. */
@@ -690,19 +687,18 @@ public final class PinKindChecks {
 
         /** False, when there is no word more. */
         boolean toNextWord() {
-            wordStart = wordEnd;
-            while (isInside(wordStart) && letters[wordStart] == ' ') {
-                wordStart++;
+            int bound = Math.min(length, letters.length);
+            int start = Math.max(wordEnd, 0);
+            while (start < bound && letters[start] == ' ') {
+                start++;
             }
-            wordEnd = wordStart;
-            while (isInside(wordEnd) && letters[wordEnd] != ' ') {
-                wordEnd++;
+            int end = start;
+            while (end < bound && letters[end] != ' ') {
+                end++;
             }
-            return wordEnd > wordStart;
-        }
-
-        private boolean isInside(int index) {
-            return index >= 0 && index < length && index < letters.length;
+            wordStart = start;
+            wordEnd = end;
+            return end > start;
         }
 
         boolean wordIs(String word) {
@@ -750,7 +746,7 @@ public final class PinKindChecks {
         private final int[] codes = new int[MOST_WORDS];
         private final int[] indexes = new int[MOST_WORDS];
         private final int[] pending = new int[MOST_WORDS];
-        private final RuleText text;
+        private final RuleText text = new RuleText();
         private int codeCount = 0;
         private int pendingCount = 0;
         private int wordsRead = 0;
@@ -760,8 +756,12 @@ public final class PinKindChecks {
         private int subject = PART;
         private int weight = WARN;
 
-        RuleReader(RuleText text) {
-            this.text = text;
+        boolean addLetter(int letter) {
+            return text.addLetter(letter);
+        }
+
+        void wipe() {
+            text.wipe();
         }
 
         /** The rule, or null: then wrongWord() tells the word. */
@@ -1076,15 +1076,17 @@ public final class PinKindChecks {
             return operator == TIMES ? TIMES : PLUS;
         }
 
-        /** 0, when the rule has no remark about the thing. */
-        int weightFor(Thing thing, long[] stack) {
-            boolean isSubject = subject == PART && thing instanceof Part
-                    || subject == NET && thing instanceof Net
-                    || subject == PIN && thing instanceof Pin;
-            return isSubject && holdsFor(thing, stack) ? weight : 0;
+        int weight() {
+            return weight;
         }
 
-        private boolean holdsFor(Thing thing, long[] stack) {
+        boolean isAbout(Thing thing) {
+            return subject == PART && thing instanceof Part
+                    || subject == NET && thing instanceof Net
+                    || subject == PIN && thing instanceof Pin;
+        }
+
+        boolean holdsFor(Thing thing, long[] stack) {
             int height = 0;
             for (int i = 0; i < codes.length && i < indexes.length; i++) {
                 int code = codes[i];

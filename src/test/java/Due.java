@@ -1,12 +1,43 @@
 /** What the tests share: answers that are due, and a run's end with exit code 1 if one was another. */
 final class Due {
     private static int wrong = 0;
+    private static volatile String sentence = "";
+
+    // A call that fails to end is a fault, too: it must not hold up the run of all tests.
+    private static final long MOST_SECONDS = 600;
+
+    static {
+        Thread watch = new Thread(Due::giveUp);
+        watch.setDaemon(true);
+        watch.start();
+    }
 
     private Due() {
     }
 
+    private static void giveUp() {
+        try {
+            Thread.sleep(1000 * MOST_SECONDS);
+        } catch (InterruptedException e) {
+            return;
+        }
+        System.out.println(sentence + "the test has not ended after " + MOST_SECONDS + " seconds");
+        Runtime.getRuntime().halt(1);
+    }
+
     interface Call {
         long answer();
+    }
+
+    /** The document's words that a test is about stand before each fault that it finds. */
+    static void sentence(String words, Runnable test) {
+        sentence = "'" + words + "': ";
+        try {
+            test.run();
+        } catch (RuntimeException e) {
+            tell("the test was ended by " + e);
+        }
+        sentence = "";
     }
 
     static void is(String call, long got, long want) {
@@ -44,7 +75,7 @@ final class Due {
 
     static void tell(String fault) {
         wrong++;
-        System.out.println(fault);
+        System.out.println(sentence + fault);
     }
 
     static boolean allRight() {

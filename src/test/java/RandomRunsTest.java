@@ -4,7 +4,7 @@ import java.util.Random;
 
 /** Runs of up to 512 calls, drawn by fixed seeds, on the class and on the model beside it: both must answer alike. */
 public final class RandomRunsTest {
-    private static final int RUNS = 500;
+    private static final int RUNS = 1500;
     private static final int MOST_CALLS = 512;
 
     private final Random random;
@@ -100,7 +100,7 @@ public final class RandomRunsTest {
             waive();
         } else if (draw < 84) {
             same("run()", x::run, model::run);
-            allRemarks();
+            lookAround();
         } else if (draw < 88) {
             same("next()", x::next, model::next);
         } else if (draw < 90) {
@@ -115,10 +115,14 @@ public final class RandomRunsTest {
             int what = near(4);
             same("closed(" + k + ", " + what + ")", () -> x.closed(k, what), () -> model.closed(k, what));
         } else if (random.nextInt(4) == 0) {
-            calls.add("clear()");
-            x.clear();
-            model = new Model();
+            clear();
         }
+    }
+
+    private void clear() {
+        calls.add("clear()");
+        x.clear();
+        model = new Model();
     }
 
     private void part() {
@@ -167,22 +171,31 @@ public final class RandomRunsTest {
         same("rule() of '" + model.text + "'", x::rule, model::rule);
     }
 
-    /** All that a run made is looked at; these looks are not counted as calls, so that runs stay varied. */
-    private void allRemarks() {
-        int k = 0;
-        for (Model.Remark one : model.latest.keySet()) {
-            Model.Seen seen = model.latest.get(one);
-            int reason = model.waived.getOrDefault(one, -1);
-            Due.remark(x, k, one.rule(), one.kind(), one.thing(), seen.weight(), seen.first(), reason);
-            k++;
+    /** What a run made: its first remark and its last, some between, and that there is none behind the last. */
+    private void lookAround() {
+        int remarks = model.latest.size();
+        int closed = model.closed.size();
+        int looks = random.nextInt(isBusy ? 8 : 4);
+        for (int i = 0; i < looks; i++) {
+            lookAtRemark(i == 0 ? remarks - 1 : i == 1 ? 0 : near(remarks));
+            lookAtClosed(i == 0 ? closed - 1 : i == 1 ? 0 : near(closed));
         }
-        Due.remarks(x, k);
-        k = 0;
-        for (Model.Remark one : model.closed.keySet()) {
-            Due.closed(x, k, one.rule(), one.kind(), one.thing(), model.closed.get(one).first());
-            k++;
+        same("remark(" + remarks + ", 0)", () -> x.remark(remarks, 0), () -> model.remark(remarks, 0));
+        same("closed(" + closed + ", 0)", () -> x.closed(closed, 0), () -> model.closed(closed, 0));
+    }
+
+    private void lookAtRemark(int k) {
+        for (int i = 0; i < 6; i++) {
+            int what = i;
+            same("remark(" + k + ", " + what + ")", () -> x.remark(k, what), () -> model.remark(k, what));
         }
-        Due.closedCount(x, k);
+    }
+
+    private void lookAtClosed(int k) {
+        for (int i = 0; i < 4; i++) {
+            int what = i;
+            same("closed(" + k + ", " + what + ")", () -> x.closed(k, what), () -> model.closed(k, what));
+        }
     }
 
     private static long is(boolean answer) {
@@ -210,7 +223,11 @@ public final class RandomRunsTest {
         return random.nextInt(10) == 0 ? random.nextLong() : 100L * (random.nextInt(9) - 4);
     }
 
+    /** What later calls answer is free, so none is made after the 512th. */
     private void same(String call, Due.Call made, Due.Call wanted) {
+        if (calls.size() >= MOST_CALLS) {
+            return;
+        }
         calls.add(call);
         String got = outcome(made);
         String want = outcome(wanted);
